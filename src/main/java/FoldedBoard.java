@@ -20,7 +20,7 @@ public final class FoldedBoard {
     private final Past past = new Past();
     private final Tale tale = new Tale();
     private final Outlook outlook = new Outlook();
-    private final Hunt hunt = new Hunt(play, outlook);
+    private final Hunt hunt = new Hunt();
     private final Walk walk = new Walk();
     private final Shrink shrink = new Shrink();
     private final Play[] images = new Play[IMAGES];
@@ -233,14 +233,14 @@ public final class FoldedBoard {
         if (!within(n, 0, MOST_STEPS)) {
             return refuseBad(BAD);
         }
-        return hunt.sureWithin(n) ? 1 : 0;
+        return hunt.sureWithin(play, n) ? 1 : 0;
     }
 
     public int best(int n) {
         if (!within(n, 0, MOST_STEPS)) {
             return refuseBad(BAD);
         }
-        return hunt.firstSure(n);
+        return hunt.firstSure(play, n);
     }
 
     // ---- games
@@ -987,30 +987,24 @@ public final class FoldedBoard {
         private static final int STUCK = -2;
         private static final int STEPS_A_MAN = WAYS * MOST_FAR;
 
-        private final Play play;
-        private final Outlook outlook;
+        private final Outlook outlook = new Outlook();
         private final int[][] rows = new int[MOST_STEPS + 1][ROW];
         private final int[][] leaders = new int[MOST_STEPS + 1][MEN];
 
-        Hunt(Play play, Outlook outlook) {
-            this.play = play;
-            this.outlook = outlook;
-        }
-
-        boolean sureWithin(int n) {
+        boolean sureWithin(Play play, int n) {
             // row 0 is free for this: no STEP is tried with none left
             play.save(rows[0]);
-            boolean sure = isForced(play.onTurn(), n);
+            boolean sure = isForced(play, play.onTurn(), n);
             play.load(rows[0]);
             return sure;
         }
 
-        int firstSure(int n) {
+        int firstSure(Play play, int n) {
             int me = play.onTurn();
             if (n == 0 || play.due > 0 || play.winner() == me) {
                 return NONE;
             }
-            int found = firstStep(me, n, true);
+            int found = firstStep(play, me, n, true);
             if (found < 0) {
                 return NONE;
             }
@@ -1022,12 +1016,12 @@ public final class FoldedBoard {
             return position + 10 * wayOf(found) + farOf(found);
         }
 
-        private boolean isForced(int me, int left) {
+        private boolean isForced(Play play, int me, int left) {
             if (play.winner() == me) {
                 return true;
             }
             boolean mine = play.onTurn() == me;
-            if (!canTakeAll(1 - me, mine ? (left + 1) / 2 : left / 2)) {
+            if (!canBeTaken(play.menOf(1 - me), mine ? (left + 1) / 2 : left / 2)) {
                 return false;
             }
             for (int i = 0; i < FOLDS && play.due > 0; i++) {
@@ -1036,27 +1030,26 @@ public final class FoldedBoard {
                 play.creaseDue(sheet.choiceAxis(choice), sheet.choiceLine(choice), sheet.choiceWay(choice));
             }
             if (mine) {
-                return firstStep(me, left, true) >= 0;
+                return firstStep(play, me, left, true) >= 0;
             }
-            return firstStep(me, left, false) == NONE;
+            return firstStep(play, me, left, false) == NONE;
         }
 
         /** A STEP takes one MAN at most, and who has none to lose from the first is never beaten. */
-        private boolean canTakeAll(int owner, int steps) {
-            int n = play.menOf(owner);
-            return n > 0 && n <= steps;
+        private static boolean canBeTaken(int men, int steps) {
+            return men > 0 && men <= steps;
         }
 
         /**
          * The number of the first STEP behind which 'me' is sure to win (or is not), as wanted;
          * NONE: there are STEPS, but none such; STUCK: there is no STEP. The game stays as it is.
          */
-        private int firstStep(int me, int left, boolean wanted) {
+        private int firstStep(Play play, int me, int left, boolean wanted) {
             if (!within(left, 1, MOST_STEPS)) {
                 return STUCK;
             }
             int[] order = leaders[left];
-            int steps = STEPS_A_MAN * listLeaders(order);
+            int steps = STEPS_A_MAN * listLeaders(play, order);
             int answer = STUCK;
             play.save(rows[left]);
             for (int s = 0; s < steps; s++) {
@@ -1071,7 +1064,7 @@ public final class FoldedBoard {
                 }
                 answer = NONE;
                 play.carry(man, goal);
-                boolean sure = isForced(me, left - 1);
+                boolean sure = isForced(play, me, left - 1);
                 play.load(rows[left]);
                 if (sure == wanted) {
                     return s;
@@ -1089,14 +1082,14 @@ public final class FoldedBoard {
         }
 
         /** The RULERS of who is on turn, by y, x of their POSITIONS: how many. */
-        private int listLeaders(int[] order) {
+        private static int listLeaders(Play play, int[] order) {
             int n = 0;
             for (int m = 0; m < play.men; m++) {
-                if (!leads(m)) {
+                if (!leads(play, m)) {
                     continue;
                 }
                 int at = n;
-                while (at > 0 && liesAhead(m, order[at - 1])) {
+                while (at > 0 && liesAhead(play, m, order[at - 1])) {
                     order[at] = order[at - 1];
                     at--;
                 }
@@ -1106,7 +1099,7 @@ public final class FoldedBoard {
             return n;
         }
 
-        private boolean leads(int man) {
+        private static boolean leads(Play play, int man) {
             if (!play.isIn(man) || play.owners[man] != play.onTurn()) {
                 return false;
             }
@@ -1114,7 +1107,7 @@ public final class FoldedBoard {
             return play.rulerAt(play.sheet.xs[c], play.sheet.ys[c]) == man;
         }
 
-        private boolean liesAhead(int man, int other) {
+        private static boolean liesAhead(Play play, int man, int other) {
             int a = play.cells[man];
             int b = play.cells[other];
             if (!play.sheet.has(a) || !play.sheet.has(b)) {

@@ -411,7 +411,30 @@ public final class PromisesTest {
             due("ruler(LOW, HIGH)", b.ruler(LOW, HIGH), -1);
             dueStatus(b, 0, 0, 0);
         }
-        // the strongest, though he lies lowest
+        rulerIsTheStrongest();
+    }
+
+    private static void rulerIsTheStrongest() {
+        for (int late = 0; late < 2; late++) {
+            FoldedBoard b = new FoldedBoard();
+            b.board(2, 2);
+            b.put(0, 1);
+            b.man(0, 0, 1, 7);
+            b.man(0, 1, late == 0 ? 8 : 3, 0);
+            b.man(0, 0, late == 0 ? 3 : 8, 6);
+            due("step(1, 1, 0, 1)", b.step(1, 1, 0, 1), -1);
+            // 6 comes to lie on 0
+            due("fold(1, 1, 0)", b.fold(1, 1, 0), 0);
+            due("ruler(0, 0)", b.ruler(0, 0), 1 + late);
+            b.undo();
+            // 0 comes to lie on 6
+            due("fold(1, 1, 1)", b.fold(1, 1, 1), 0);
+            due("ruler(0, 1)", b.ruler(0, 1), 1 + late);
+        }
+        rulersBehindAFold();
+    }
+
+    private static void rulersBehindAFold() {
         FoldedBoard b = new FoldedBoard();
         b.board(2, 2);
         b.put(0, 1);
@@ -535,6 +558,29 @@ public final class PromisesTest {
         due("2 far, takes", b.step(3, 0, 3, 2), 2);
         due("where(3)", b.where(3), 1);
         due("state(5)", b.state(5), 0);
+        // up and down, over a CELL; at the edge the other side does not help
+        b.board(2, 4);
+        b.hole(6);
+        b.man(4, 0, 5, 12);
+        b.man(4, 1, 5, 1);
+        due("over a HOLE", b.step(0, 2, 0, 2), -20);
+        due("off the board", b.step(0, 2, 2, 2), -20);
+        due("step(0, 2, 2, 1)", b.step(0, 2, 2, 1), -1);
+        due("2 far down", b.step(1, 0, 2, 2), -1);
+        due("where(1)", b.where(1), 13);
+        due("step(0, 3, 0, 1)", b.step(0, 3, 0, 1), -1);
+        due("2 far up", b.step(1, 2, 0, 2), -1);
+        due("where(1)", b.where(1), 1);
+        // one FOLD is DUE: no STEP of who is on turn
+        b.board(3, 2);
+        b.put(0, 1);
+        b.man(0, 0, 5, 0);
+        b.man(0, 1, 5, 8);
+        b.step(0, 0, 2, 1);
+        due("state(2)", b.state(2), 1);
+        due("step(2, 1, 0, 1)", b.step(2, 1, 0, 1), -20);
+        due("fold(1, 1, 0)", b.fold(1, 1, 0), 0);
+        due("step(2, 0, 3, 1)", b.step(2, 0, 3, 1), -1);
     }
 
     private static void fold() {
@@ -715,6 +761,38 @@ public final class PromisesTest {
         due("state(2)", b.state(2), 1);
         due("state(3)", b.state(3), 0);
         undoFoldAndTaking();
+        undoUnfolding();
+    }
+
+    /** Back to where three FOLDS were, from where they were undone. */
+    private static void undoUnfolding() {
+        FoldedBoard b = new FoldedBoard();
+        b.put(0, 1);
+        b.put(1, 3);
+        b.man(0, 0, 5, 8);
+        b.man(0, 1, 5, 35);
+        due("step(2, 1, 0, 1)", b.step(2, 1, 0, 1), -1);
+        due("fold(1, 4, 0)", b.fold(1, 4, 0), 2);
+        due("fold(0, 2, 1)", b.fold(0, 2, 1), 1);
+        due("fold(1, 2, 0)", b.fold(1, 2, 0), 0);
+        int[] seen = new int[4 * 36];
+        for (int i = 0; i < seen.length; i++) {
+            seen[i] = b.cell(i / 4, i % 4);
+        }
+        due("step(5, 1, 0, 1)", b.step(5, 1, 0, 1), -1);
+        due("state(3)", b.state(3), 0);
+        due("undo()", b.undo(), 1);
+        due("state(3)", b.state(3), 3);
+        for (int i = 0; i < seen.length; i++) {
+            due("cell(" + i / 4 + ", " + i % 4 + ")", b.cell(i / 4, i % 4), seen[i]);
+        }
+        due("undo()", b.undo(), 1);
+        dueCell(b, 0, 3, 0, 3, 1);
+        dueCell(b, 35, 5, 2, 1, 1);
+        due("undo()", b.undo(), 1);
+        dueCell(b, 0, 0, 0, 0, 0);
+        dueCell(b, 35, 5, 2, 1, 1);
+        dueCell(b, 24, 0, 3, 1, 1);
     }
 
     private static void undoFoldAndTaking() {
@@ -779,7 +857,13 @@ public final class PromisesTest {
         b.hole(1);
         b.hole(7);
         due("folds(-1)", b.folds(-1), 6);
-        // lines below 0, and above 5
+        b.board(2, 4);
+        int[] tall = {210, 211, 1210, 1211, 1220, 1221, 1230, 1231};
+        due("folds(-1)", b.folds(-1), 8);
+        for (int i = 0; i < 8; i++) {
+            due("folds(" + i + ")", b.folds(i), tall[i]);
+        }
+        // lines below 0
         b.board(6, 2);
         b.put(0, 1);
         b.put(1, 3);
@@ -817,6 +901,20 @@ public final class PromisesTest {
             due("leaves(" + i + ", 1)", b.leaves(i, 1), want[i][1]);
         }
         due("state(3)", b.state(3), 0);
+        // a pile of two alike: if it moves, the lower one comes to lie above
+        FoldedBoard c = new FoldedBoard();
+        c.board(2, 2);
+        c.put(0, 1);
+        c.man(0, 0, 3, 1);
+        c.man(0, 1, 3, 6);
+        due("step(1, 0, 3, 1)", c.step(1, 0, 3, 1), -1);
+        due("fold(1, 1, 0)", c.fold(1, 1, 0), 0);
+        due("ruler(0, 0)", c.ruler(0, 0), 1);
+        due("folds(1)", c.folds(1), 211);
+        due("leaves(0, 0)", c.leaves(0, 0), 0);
+        due("leaves(0, 1)", c.leaves(0, 1), 1);
+        due("leaves(1, 0)", c.leaves(1, 0), 1);
+        due("leaves(1, 1)", c.leaves(1, 1), 0);
         int[][] bad = {{-1, 0}, {4, 0}, {0, -1}, {0, 2}, {HIGH, 0}, {LOW, 1}, {0, HIGH}};
         for (int[] l : bad) {
             due("leaves(" + l[0] + ", " + l[1] + ")", b.leaves(l[0], l[1]), -2);
@@ -849,6 +947,12 @@ public final class PromisesTest {
         due("habit()", b.habit(), 0);
         due("step(1, 1, 0, 1)", b.step(1, 1, 0, 1), -1);
         due("habit()", b.habit(), 1);
+        // of the other one's two, fewer are RULERS behind the third
+        b.board(3, 2);
+        b.man(0, 0, 5, 1);
+        b.man(0, 0, 5, 2);
+        b.man(0, 1, 1, 6);
+        due("habit()", b.habit(), 2);
         FoldedBoard c = foldedInThree();
         due("none may be", c.habit(), -1);
         dueStatus(c, 0, 0, 0);
@@ -871,7 +975,11 @@ public final class PromisesTest {
         b.man(0, 1, 4, 7);
         due("under his own he is safe, beside the other he is not", b.safe(), 1 | 4);
         due("state(3)", b.state(3), 0);
-        // now counts, too; the TAKEN are not safe
+        b.board(2, 2);
+        b.man(2, 0, 4, 1);
+        b.man(0, 1, 5, 0);
+        due("neither, by one way each", b.safe(), 0);
+        // the TAKEN are not safe
         b.board(2, 2);
         b.put(0, 1);
         b.put(1, 2);
@@ -884,6 +992,24 @@ public final class PromisesTest {
         due("safe()", b.safe(), 1);
         b.fold(1, 1, 0);
         due("safe(), by no FOLD", b.safe(), 1);
+        // behind each FOLD his own would rule, but now the other one does, who lies above
+        b.board(2, 2);
+        b.put(1, 1);
+        b.man(0, 0, 5, 7);
+        b.man(0, 1, 5, 0);
+        b.man(0, 1, 9, 1);
+        due("step(1, 1, 3, 1)", b.step(1, 1, 3, 1), -1);
+        due("fold(1, 1, 0)", b.fold(1, 1, 0), 0);
+        due("ruler(0, 0)", b.ruler(0, 0), 0);
+        due("safe()", b.safe(), 4);
+        b.board(2, 2);
+        b.man(0, 0, 5, 1);
+        b.man(0, 1, 5, 6);
+        b.man(0, 1, 9, 0);
+        due("step(1, 0, 2, 1)", b.step(1, 0, 2, 1), -1);
+        due("fold(0, 1, 0)", b.fold(0, 1, 0), 0);
+        due("ruler(0, 1)", b.ruler(0, 1), 0);
+        due("safe()", b.safe(), 4);
     }
 
     private static void small() {
@@ -908,6 +1034,10 @@ public final class PromisesTest {
         b.hole(10);
         due("small(1) of 4 by 2", b.small(1), 3);
         due("small(2) of 4 by 2", b.small(2), 2);
+        b.board(2, 2);
+        b.hole(0);
+        due("small(3)", b.small(3), 0);
+        due("small(2)", b.small(2), 1);
         FoldedBoard c = foldedInThree();
         due("small(8)", c.small(8), 0);
         due("small(7)", c.small(7), 1);
@@ -987,6 +1117,31 @@ public final class PromisesTest {
         c.hole(2);
         due("wins(3)", c.wins(3), 1);
         winsWhenFoldsAreDue();
+        winsBehindSomeFolds();
+    }
+
+    /** As many as are DUE are made by HABIT, then who is on turn takes. */
+    private static void winsBehindSomeFolds() {
+        for (int times = 1; times <= 3; times++) {
+            FoldedBoard b = new FoldedBoard();
+            b.board(6, 2);
+            b.put(0, 1);
+            b.put(1, times);
+            b.man(0, 0, 1, 4);
+            b.man(0, 1, 9, 11);
+            due("step(4, 0, 1, 1)", b.step(4, 0, 1, 1), -1);
+            due("state(2)", b.state(2), times);
+            due("wins(1)", b.wins(1), 1);
+            due("best(1)", b.best(1), -1);
+            for (int i = 0; i < times; i++) {
+                // they lie apart by each FOLD by x: the first of these
+                due("habit()", b.habit(), 0);
+                int f = b.folds(0);
+                due("fold", b.fold(f / 1000, f % 1000 / 10 - 20, f % 10), times - 1 - i);
+            }
+            due("state(3)", b.state(3), times);
+            due("wins(1)", b.wins(1), 1);
+        }
     }
 
     /** DUE now: HABIT lays the weak one beside the strong one's way, or over him. */
@@ -1034,6 +1189,39 @@ public final class PromisesTest {
         due("best(1)", b.best(1), 202121);
         // by the first he only makes room: the weak one must come there
         due("best(3)", b.best(3), 202111);
+        // by x in a row, whoever came first
+        for (int first = 0; first < 2; first++) {
+            b.board(3, 3);
+            b.man(0, 0, 9, first == 0 ? 6 : 8);
+            b.man(0, 0, 9, first == 0 ? 8 : 6);
+            b.man(0, 1, 1, 7);
+            due("best(1)", b.best(1), 212011);
+            b.board(3, 3);
+            b.man(0, 0, 9, first == 0 ? 1 : 13);
+            b.man(0, 0, 9, first == 0 ? 13 : 1);
+            b.man(0, 1, 1, 7);
+            due("best(1)", b.best(1), 202121);
+            // here y is less where x is more
+            b.board(3, 3);
+            b.man(0, 0, 9, first == 0 ? 1 : 6);
+            b.man(0, 0, 9, first == 0 ? 6 : 1);
+            b.man(0, 1, 1, 7);
+            due("best(1)", b.best(1), 202121);
+        }
+        for (int y = 0; y < 3; y++) {
+            b.board(3, 3);
+            b.man(0, 0, 9, 6 * y + 2);
+            b.man(0, 0, 9, 6 * y);
+            b.man(0, 1, 1, 6 * y + 1);
+            due("best(1)", b.best(1), 10000 * (20 + y) + 2011);
+        }
+        // only the one who comes last by y, x
+        b.board(3, 4);
+        b.man(0, 0, 9, 13);
+        b.man(0, 0, 9, 8);
+        b.man(0, 0, 9, 6);
+        b.man(0, 1, 1, 19);
+        due("best(1)", b.best(1), 222121);
         // a RUNNER: 1 far ahead of 2 far
         b.board(3, 2);
         b.man(4, 0, 9, 0);
@@ -1113,7 +1301,10 @@ public final class PromisesTest {
         dueFault("step", 4);
         dueFault("step 0 0 1 1;fold 0", 19);
         dueFault("ste", 0);
-        dueFault("steps 0 0 1 1;", 0);
+        for (String none : new String[] {"steps", "atep", "sxep", "stxp", "stex", "bold", "fald", "foxd", "folk", "a", "z", "stepfold"}) {
+            dueFault(none + " 0 0 1 1;", 0);
+            dueFault("step 0 0 1 1;" + none + ";", 13);
+        }
         dueFault(" stepfold 0", 1);
         dueFault("Step 0 0 1 1;", 0);
         dueFault("step 0 0 1 1 1;", 13);
@@ -1179,6 +1370,7 @@ public final class PromisesTest {
         due("judge(), a FAULT behind", b.judge(), -3);
         dueStatus(b, 0, 1, 0);
         b.clear();
+        judgeLeavesTheFolds();
         // from how it is now: FOLDS are DUE
         b.step(2, 1, 3, 1);
         typeText(b, "fold 0 1 0; fold 0 0 1;");
@@ -1186,6 +1378,27 @@ public final class PromisesTest {
         due("fold(0, 1, 0)", b.fold(0, 1, 0), 1);
         due("judge()", b.judge(), 0);
         due("state(3)", b.state(3), 1);
+    }
+
+    /** By the ITEMS it is unfolded and folded otherwise, as often: it stays as it is now. */
+    private static void judgeLeavesTheFolds() {
+        String[] folds = {"fold 0 3 0;", "fold 1 2 0;", "fold 0 2 1;", "fold 1 3 1;"};
+        for (String other : folds) {
+            FoldedBoard b = new FoldedBoard();
+            b.put(0, 1);
+            b.man(0, 0, 5, 0);
+            b.man(0, 1, 5, 35);
+            due("step(0, 0, 1, 1)", b.step(0, 0, 1, 1), -1);
+            due("fold(0, 2, 0)", b.fold(0, 2, 0), 0);
+            typeText(b, "step -2 5 0 1; step 1 0 2 1;" + other);
+            due("judge()", b.judge(), -1);
+            due("state(3)", b.state(3), 1);
+            due("where(1)", b.where(1), 35);
+            dueCell(b, 35, -2, 5, 1, 1);
+            dueCell(b, 0, 0, 0, 0, 0);
+            dueCell(b, 13, 1, 2, 0, 0);
+            due("folds(0)", b.folds(0), 190);
+        }
     }
 
     private static void image() {
@@ -1246,6 +1459,37 @@ public final class PromisesTest {
         due("from(1) again", b.from(1), 1);
         due("digest()", b.digest(), before);
         due("count(3)", b.count(3), 4);
+        b.board(6, 6);
+        b.from(1);
+        due("folds(-1)", b.folds(-1), 0);
+        due("habit()", b.habit(), -1);
+        fromWithEightToUndo();
+    }
+
+    private static void fromWithEightToUndo() {
+        FoldedBoard b = new FoldedBoard();
+        b.put(0, 9);
+        b.man(0, 0, 5, 0);
+        b.man(0, 1, 5, 30);
+        int[][] steps = {{0, 0, 1}, {0, 5, 1}, {1, 0, 1}, {1, 5, 1}, {2, 0, 1}, {2, 5, 1}, {3, 0, 1}, {3, 5, 1}};
+        for (int[] s : steps) {
+            due("step", b.step(s[0], s[1], s[2], 1), -1);
+        }
+        due("image(0)", b.image(0), 1);
+        b.board(6, 6);
+        b.man(0, 0, 5, 1);
+        b.man(0, 1, 5, 31);
+        for (int i = 0; i < 4; i++) {
+            due("step(1, .., 2, 1)", b.step(1, i, 2, 1), -1);
+            due("step(.., 5, 1, 1)", b.step(1 + i, 5, 1, 1), -1);
+        }
+        due("from(0)", b.from(0), 1);
+        for (int i = 7; i >= 0; i--) {
+            due("undo()", b.undo(), 1);
+            due("where(0)", b.where(0), (i + 1) / 2);
+            due("where(1)", b.where(1), 30 + i / 2);
+        }
+        due("undo()", b.undo(), -3);
     }
 
     private static void status() {

@@ -1,8 +1,5 @@
 /** Each promise of the document: ordinary inputs, edges, wrong inputs; what is due was worked out by hand. */
-public final class PromisesTest {
-    private static final int LOW = Integer.MIN_VALUE, HIGH = Integer.MAX_VALUE;
-    private static int wrong, checks, promise;
-
+public final class PromisesTest extends Checks {
     public static void main(String[] args) {
         newObject();
         board();
@@ -40,80 +37,11 @@ public final class PromisesTest {
         status();
         count();
         digest();
-        System.out.println(checks + " checks, " + wrong + " wrong");
-        System.exit(wrong == 0 ? 0 : 1);
-    }
-
-    private static void due(String call, long got, long want) {
-        checks++;
-        if (got != want) {
-            wrong++;
-            System.out.println("promise " + promise + ": " + call + " answered " + got + ", due is " + want);
-        }
-    }
-
-    private static void dueStatus(FoldedBoard b, int bad, int no, int full) {
-        due("status(0)", b.status(0), bad);
-        due("status(1)", b.status(1), no);
-        due("status(2)", b.status(2), full);
-    }
-
-    private static void duePile(FoldedBoard b, int x, int y, int... cells) {
-        due("pile(" + x + ", " + y + ", -1)", b.pile(x, y, -1), cells.length);
-        for (int i = 0; i < cells.length; i++) {
-            due("pile(" + x + ", " + y + ", " + i + ")", b.pile(x, y, i), cells[i]);
-        }
-        due("pile(" + x + ", " + y + ", " + cells.length + ")", b.pile(x, y, cells.length), -5);
-    }
-
-    private static void dueCell(FoldedBoard b, int cell, int... want) {
-        for (int what = 0; what < 4; what++) {
-            due("cell(" + cell + ", " + what + ")", b.cell(cell, what), want[what]);
-        }
-    }
-
-    private static long hash(int... values) {
-        long h = 653;
-        for (int v : values) {
-            h = 31 * h + v;
-        }
-        return h;
-    }
-
-    private static void typeText(FoldedBoard b, String text) {
-        for (int i = 0; i < text.length(); i++) {
-            due("type(" + (int) text.charAt(i) + ", 1)", b.type(text.charAt(i), 1), b.count(2));
-        }
-    }
-
-    /** 4 wide, 2 high, folded in three: all 8 CELLS lie at 0, 1. */
-    private static FoldedBoard foldedInThree() {
-        FoldedBoard b = new FoldedBoard();
-        due("board(4, 2)", b.board(4, 2), 8);
-        b.put(0, 1);
-        b.put(1, 3);
-        b.man(0, 0, 5, 0);
-        due("step(0, 0, 2, 1)", b.step(0, 0, 2, 1), -1);
-        due("fold(0, 2, 0)", b.fold(0, 2, 0), 2);
-        due("fold(1, 1, 1)", b.fold(1, 1, 1), 1);
-        due("fold(0, 1, 0)", b.fold(0, 1, 0), 0);
-        return b;
-    }
-
-    /** A line of 4 CELLS; the strong one at one end, the weak one at the other. */
-    private static FoldedBoard lineOfFour() {
-        FoldedBoard b = new FoldedBoard();
-        b.board(4, 2);
-        for (int c = 6; c < 10; c++) {
-            b.hole(c);
-        }
-        b.man(0, 0, 9, 0);
-        b.man(0, 1, 1, 3);
-        return b;
+        end();
     }
 
     private static void newObject() {
-        promise = 1;
+        promise(1);
         FoldedBoard b = new FoldedBoard();
         due("count(0)", b.count(0), 36);
         for (int i = 1; i < 4; i++) {
@@ -144,7 +72,7 @@ public final class PromisesTest {
     }
 
     private static void board() {
-        promise = 2;
+        promise(2);
         FoldedBoard b = foldedInThree();
         typeText(b, "step");
         int[][] bad = {{1, 2}, {2, 1}, {7, 6}, {6, 7}, {0, 0}, {-1, 3}, {LOW, 2}, {2, HIGH}};
@@ -181,7 +109,7 @@ public final class PromisesTest {
     }
 
     private static void hole() {
-        promise = 3;
+        promise(3);
         FoldedBoard b = new FoldedBoard();
         b.board(5, 4);
         for (int c : new int[] {-1, 5, 11, 24, 28, 36, LOW, HIGH}) {
@@ -223,7 +151,7 @@ public final class PromisesTest {
     }
 
     private static void man() {
-        promise = 4;
+        promise(4);
         FoldedBoard b = new FoldedBoard();
         b.board(4, 4);
         b.hole(3);
@@ -256,7 +184,7 @@ public final class PromisesTest {
     }
 
     private static void put() {
-        promise = 5;
+        promise(5);
         FoldedBoard b = new FoldedBoard();
         due("put(0, 9)", b.put(0, 9), 7);
         due("put(0, 1)", b.put(0, 1), 9);
@@ -282,7 +210,7 @@ public final class PromisesTest {
     }
 
     private static void cell() {
-        promise = 6;
+        promise(6);
         FoldedBoard b = foldedInThree();
         int[][] want = {{0, 0, 1, 3, 1}, {1, 0, 1, 4, 0}, {2, 0, 1, 5, 1}, {3, 0, 1, 2, 0},
             {6, 0, 1, 0, 0}, {7, 0, 1, 7, 1}, {8, 0, 1, 6, 0}, {9, 0, 1, 1, 1}};
@@ -336,7 +264,7 @@ public final class PromisesTest {
     }
 
     private static void pile() {
-        promise = 7;
+        promise(7);
         FoldedBoard b = foldedInThree();
         duePile(b, 0, 1, 6, 9, 3, 0, 1, 2, 8, 7);
         duePile(b, 0, 0);
@@ -356,7 +284,7 @@ public final class PromisesTest {
     }
 
     private static void strength() {
-        promise = 8;
+        promise(8);
         FoldedBoard b = new FoldedBoard();
         b.board(6, 2);
         b.put(0, 1);
@@ -388,7 +316,7 @@ public final class PromisesTest {
     }
 
     private static void ruler() {
-        promise = 9;
+        promise(9);
         for (int way = 0; way < 2; way++) {
             FoldedBoard b = new FoldedBoard();
             b.board(3, 2);
@@ -447,7 +375,7 @@ public final class PromisesTest {
     }
 
     private static void where() {
-        promise = 10;
+        promise(10);
         FoldedBoard b = new FoldedBoard();
         b.man(0, 0, 9, 21);
         b.man(0, 1, 8, 20);
@@ -463,7 +391,7 @@ public final class PromisesTest {
     }
 
     private static void step() {
-        promise = 11;
+        promise(11);
         FoldedBoard b = new FoldedBoard();
         b.board(3, 3);
         b.hole(12);
@@ -584,7 +512,7 @@ public final class PromisesTest {
     }
 
     private static void fold() {
-        promise = 12;
+        promise(12);
         FoldedBoard b = new FoldedBoard();
         b.board(4, 2);
         b.put(0, 1);
@@ -669,7 +597,7 @@ public final class PromisesTest {
     }
 
     private static void state() {
-        promise = 13;
+        promise(13);
         FoldedBoard b = new FoldedBoard();
         for (int what : new int[] {-1, 6, LOW, HIGH}) {
             due("state(" + what + ")", b.state(what), -10);
@@ -726,7 +654,7 @@ public final class PromisesTest {
     }
 
     private static void undo() {
-        promise = 14;
+        promise(14);
         FoldedBoard b = new FoldedBoard();
         due("undo()", b.undo(), -3);
         dueStatus(b, 0, 1, 0);
@@ -832,7 +760,7 @@ public final class PromisesTest {
     }
 
     private static void folds() {
-        promise = 15;
+        promise(15);
         FoldedBoard b = new FoldedBoard();
         b.board(3, 2);
         int[] flat = {210, 211, 220, 221, 1210, 1211};
@@ -893,7 +821,7 @@ public final class PromisesTest {
     }
 
     private static void leaves() {
-        promise = 16;
+        promise(16);
         FoldedBoard b = moleBesideMan();
         int[][] want = {{0, 1}, {1, 0}, {1, 1}, {1, 1}};
         for (int i = 0; i < 4; i++) {
@@ -923,7 +851,7 @@ public final class PromisesTest {
     }
 
     private static void habit() {
-        promise = 17;
+        promise(17);
         FoldedBoard b = moleBesideMan();
         due("the MOLE's side is BEHIND", b.habit(), 0);
         due("state(3)", b.state(3), 0);
@@ -959,7 +887,7 @@ public final class PromisesTest {
     }
 
     private static void safe() {
-        promise = 18;
+        promise(18);
         FoldedBoard b = moleBesideMan();
         due("neither", b.safe(), 0);
         b.board(2, 2);
@@ -1013,7 +941,7 @@ public final class PromisesTest {
     }
 
     private static void small() {
-        promise = 19;
+        promise(19);
         FoldedBoard b = new FoldedBoard();
         int[][] want = {{36, 0}, {35, 1}, {18, 1}, {17, 2}, {9, 2}, {8, 3}, {6, 3}, {5, -1}, {1, -1}};
         for (int[] w : want) {
@@ -1052,7 +980,7 @@ public final class PromisesTest {
     }
 
     private static void reach() {
-        promise = 20;
+        promise(20);
         FoldedBoard b = lineOfFour();
         int[] want = {1, 2, 3, 3, 3, 3, 3, 3, 3, 3};
         for (int n = 0; n < 10; n++) {
@@ -1080,7 +1008,7 @@ public final class PromisesTest {
     }
 
     private static void wins() {
-        promise = 21;
+        promise(21);
         FoldedBoard b = lineOfFour();
         int[] want = {0, 0, 0, 1};
         for (int n = 0; n < 4; n++) {
@@ -1168,7 +1096,7 @@ public final class PromisesTest {
     }
 
     private static void best() {
-        promise = 22;
+        promise(22);
         FoldedBoard b = lineOfFour();
         due("best(3)", b.best(3), 202011);
         due("best(2)", b.best(2), -1);
@@ -1242,7 +1170,7 @@ public final class PromisesTest {
     }
 
     private static void type() {
-        promise = 23;
+        promise(23);
         FoldedBoard b = new FoldedBoard();
         for (int n : new int[] {0, -1, 9, LOW, HIGH}) {
             due("type(0, " + n + ")", b.type(0, n), -2);
@@ -1267,7 +1195,7 @@ public final class PromisesTest {
     }
 
     private static void clear() {
-        promise = 24;
+        promise(24);
         FoldedBoard b = new FoldedBoard();
         due("clear()", b.clear(), 0);
         typeText(b, "step 0 0 ");
@@ -1289,7 +1217,7 @@ public final class PromisesTest {
     }
 
     private static void fault() {
-        promise = 25;
+        promise(25);
         dueFault("", -1);
         dueFault("   ", -1);
         dueFault("step 0 0 1 1;", -1);
@@ -1338,7 +1266,7 @@ public final class PromisesTest {
     }
 
     private static void judge() {
-        promise = 26;
+        promise(26);
         FoldedBoard b = new FoldedBoard();
         due("judge()", b.judge(), -1);
         b.board(3, 2);
@@ -1402,7 +1330,7 @@ public final class PromisesTest {
     }
 
     private static void image() {
-        promise = 27;
+        promise(27);
         FoldedBoard b = foldedInThree();
         due("image(0)", b.image(0), 1);
         due("image(1)", b.image(1), 1);
@@ -1425,7 +1353,7 @@ public final class PromisesTest {
     }
 
     private static void from() {
-        promise = 28;
+        promise(28);
         FoldedBoard b = foldedInThree();
         due("from(0)", b.from(0), -3);
         due("from(1)", b.from(1), -3);
@@ -1493,7 +1421,7 @@ public final class PromisesTest {
     }
 
     private static void status() {
-        promise = 29;
+        promise(29);
         FoldedBoard b = new FoldedBoard();
         due("status(3)", b.status(3), -1);
         due("status(-1)", b.status(-1), -1);
@@ -1532,7 +1460,7 @@ public final class PromisesTest {
     }
 
     private static void count() {
-        promise = 30;
+        promise(30);
         FoldedBoard b = foldedInThree();
         b.man(0, 1, 1, 0);
         due("count(3), behind a MAN", b.count(3), 0);
@@ -1555,7 +1483,7 @@ public final class PromisesTest {
     }
 
     private static void digest() {
-        promise = 31;
+        promise(31);
         FoldedBoard b = new FoldedBoard();
         b.board(3, 2);
         b.hole(1);

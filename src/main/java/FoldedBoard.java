@@ -281,7 +281,7 @@ public final class FoldedBoard {
     // ---- what there is
 
     public int image(int i) {
-        if (!within(i, 0, IMAGES - 1)) {
+        if (!isImage(i)) {
             return refuseBad(BAD);
         }
         images[i].copy(play);
@@ -291,7 +291,7 @@ public final class FoldedBoard {
     }
 
     public int from(int i) {
-        if (!within(i, 0, IMAGES - 1)) {
+        if (!isImage(i)) {
             return refuseBad(BAD);
         }
         if (!kept[i]) {
@@ -349,6 +349,10 @@ public final class FoldedBoard {
             h = mix(h, tale.bytes[i]);
         }
         return h;
+    }
+
+    private boolean isImage(int i) {
+        return within(i, 0, IMAGES - 1) && images[i] != null && imagePasts[i] != null;
     }
 
     private long mixBoard(long before) {

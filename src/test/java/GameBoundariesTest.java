@@ -306,6 +306,16 @@ public final class GameBoundariesTest extends Checks {
         dueSmall(c, 0);
         holes(c, 8);
         dueSmall(c, 0, 0);
+        // two CELLS across a corner, the one way and the other: by x and by y
+        c.board(2, 2);
+        holes(c, 1, 6);
+        dueSmall(c, 2, 0);
+        c.board(6, 6);
+        for (int i = 0; i < 36; i++) {
+            due("hole(" + i + ")", i == 5 || i == 30 ? 1 : c.hole(i), 1);
+        }
+        dueSmall(c, 2, 0);
+        due("count(0)", c.count(0), 2);
     }
 
     private static void smallNone() {
@@ -968,7 +978,7 @@ public final class GameBoundariesTest extends Checks {
 
     /** By the ITEMS it is unfolded and folded as often, but otherwise: by another axis, line, way, the first or the last one. */
     private static void judgeLeavesTheFolds() {
-        String[] others = {"fold 1 4 0;fold 0 4 0;", "fold 0 4 0;fold 0 3 0;", "fold 0 5 1;fold 0 6 0;",
+        String[] others = {"fold 1 5 0;fold 0 4 0;", "fold 0 4 0;fold 0 3 0;", "fold 0 5 1;fold 0 6 0;",
             "fold 0 5 0;fold 1 4 0;", "fold 0 5 0;fold 0 3 0;", "fold 0 5 0;fold 0 4 1;"};
         for (String other : others) {
             FoldedBoard b = new FoldedBoard();
@@ -987,6 +997,17 @@ public final class GameBoundariesTest extends Checks {
             due("where(0)", b.where(0), 1);
             dueFolds(b, 210, 211, 220, 221, 230, 231, 1210, 1211, 1220, 1221, 1230, 1231, 1240, 1241, 1250, 1251);
         }
+        // one FOLD, and another one of which nothing is like it
+        FoldedBoard c = new FoldedBoard();
+        c.put(0, 1);
+        c.man(0, 0, 5, 0);
+        c.man(0, 1, 5, 30);
+        c.step(0, 0, 1, 1);
+        c.fold(0, 5, 0);
+        tell(c, "step 0 5 1 1;step 1 0 3 1;fold 1 1 1;");
+        due("judge()", c.judge(), -1);
+        duePile(c, 4, 0, 4, 5);
+        duePile(c, 0, 0, 0);
     }
 
     private static void undoLast() {
@@ -1153,6 +1174,7 @@ public final class GameBoundariesTest extends Checks {
         b.fold(0, 3, 1);
         b.fold(0, 5, 0);
         b.image(1);
+        long other = b.digest();
         due("from(0)", b.from(0), 1);
         due("digest()", b.digest(), before);
         for (int i = 0; i < seen.length; i++) {
@@ -1165,6 +1187,7 @@ public final class GameBoundariesTest extends Checks {
         b.board(2, 2);
         due("small(1) of 2, 2", b.small(1), 2);
         due("from(1)", b.from(1), 1);
+        due("digest()", b.digest(), other);
         due("small(1) of 4, 2", b.small(1), 3);
         due("small(4) of 4, 2", b.small(4), 1);
         dueFolds(b, 240, 241);

@@ -212,6 +212,13 @@ public final class GameBoundariesTest extends Checks {
             c.man(0, 0, 5, i);
         }
         due("safe() of 8", c.safe(), 255);
+        // who is TAKEN has no POSITION
+        FoldedBoard d = new FoldedBoard();
+        d.man(0, 0, 9, 8);
+        d.man(0, 1, 1, 7);
+        d.man(0, 1, 1, 0);
+        due("takes", d.step(2, 1, 3, 1), 1);
+        due("safe()", d.safe(), 5);
     }
 
     /** 2 by 2: OWNER 0's 5 steps to where he comes to lie over OWNER 1's 5; a 9 of OWNER 1 lies beside. */
@@ -579,6 +586,8 @@ public final class GameBoundariesTest extends Checks {
             due("best(1) with one on " + t[0], b.best(1), t[1]);
         }
         bestWhoeverCameFirst();
+        bestBehindATaking();
+        bestOfEight();
         // WAY 1
         FoldedBoard c = new FoldedBoard();
         c.board(3, 3);
@@ -627,6 +636,41 @@ public final class GameBoundariesTest extends Checks {
                 }
             }
         }
+    }
+
+    /** One who is TAKEN has no STEP: 0 and 3, with him between by number, go by x. */
+    private static void bestBehindATaking() {
+        FoldedBoard b = new FoldedBoard();
+        b.board(3, 3);
+        b.man(0, 0, 9, 2);
+        b.man(0, 0, 1, 1);
+        b.man(0, 1, 8, 7);
+        b.man(0, 0, 9, 6);
+        due("3 comes to 0, 0", b.step(0, 1, 0, 1), -1);
+        due("1 is TAKEN", b.step(1, 1, 0, 1), 1);
+        due("best(1)", b.best(1), 202011);
+        due("wins(1)", b.wins(1), 1);
+        due("takes", b.step(0, 0, 1, 1), 2);
+        due("state(5)", b.state(5), 0);
+    }
+
+    private static void bestOfEight() {
+        FoldedBoard b = new FoldedBoard();
+        for (int i = 0; i < 8; i++) {
+            b.man(4, 0, 9, 4 * i);
+        }
+        for (int n = 0; n < 4; n++) {
+            due("all eight are his: best(" + n + ")", b.best(n), -1);
+            due("wins(" + n + ")", b.wins(n), 0);
+        }
+        // seven, and the last one by y, x takes
+        b.board(6, 6);
+        for (int i = 0; i < 7; i++) {
+            b.man(0, 0, 9, i == 0 ? 35 : i);
+        }
+        b.man(0, 1, 1, 34);
+        due("best(1) of seven", b.best(1), 252531);
+        due("wins(1) of seven", b.wins(1), 1);
     }
 
     private static void bestNone() {

@@ -1285,8 +1285,7 @@ public final class PromisesTest extends Checks {
             "step 2 1 3 1; fold 0 1 0; fold 1 1 1; step 0 1 3 1;"};
         int[] want = {-1, -1, -1, 3, 0, 0, 1, 1, 1, 1, 0, 0, 0, 0, 3, 3, -1};
         for (int i = 0; i < texts.length; i++) {
-            b.clear();
-            typeText(b, texts[i]);
+            tell(b, texts[i]);
             due("judge() of " + texts[i], b.judge(), want[i]);
             b.clear();
             due("digest() as it was", b.digest(), before);
@@ -1294,14 +1293,13 @@ public final class PromisesTest extends Checks {
             dueCell(b, 8, 2, 1, 0, 0);
         }
         dueStatus(b, 0, 0, 0);
-        typeText(b, "step 2 1 3 1; fold 0 1 0; go;");
+        tell(b, "step 2 1 3 1; fold 0 1 0; go;");
         due("judge(), a FAULT behind", b.judge(), -3);
         dueStatus(b, 0, 1, 0);
-        b.clear();
         judgeLeavesTheFolds();
         // from how it is now: FOLDS are DUE
         b.step(2, 1, 3, 1);
-        typeText(b, "fold 0 1 0; fold 0 0 1;");
+        tell(b, "fold 0 1 0; fold 0 0 1;");
         due("judge()", b.judge(), -1);
         due("fold(0, 1, 0)", b.fold(0, 1, 0), 1);
         due("judge()", b.judge(), 0);

@@ -12,7 +12,11 @@ abstract class Checks {
     private static int wrong, checks, sentences;
 
     static void promise(int number) {
-        about = "promise " + number;
+        about("promise " + number);
+    }
+
+    static void about(String what) {
+        about = what;
     }
 
     /** The document's own words that the next checks hold against: words it does not have are a fault of the test. */
